@@ -34,6 +34,7 @@ public final class PromiseTest {
         rowsFoldTheHistory();
         rowUsesTheHistoryAtTheCheck();
         ringAnswers();
+        ringOfOnePlace();
         ringOfNoPlaces();
         queuedAnswers();
         storageAnswers();
@@ -548,6 +549,10 @@ public final class PromiseTest {
             branch(x, 3 << 2, BY_NUMBER, 77);
             Due.same("7: row by history bits from " + shift, x.row(3 ^ 5, 1), 77);
         }
+        TargetRows all = new TargetRows(0, 1, 0);
+        branch(all, 0, JUMP, (3 | 6 << 6 | 12 << 12 | 21 << 18) << 2);
+        branch(all, 0, BY_NUMBER, 77);
+        Due.same("7: row by all parts of the history", all.row(3 ^ 6 ^ 12 ^ 21, 1), 77);
     }
 
     private static void rowUsesTheHistoryAtTheCheck() {
@@ -579,6 +584,15 @@ public final class PromiseTest {
         }
         Due.outOfBounds("8: below a full ring", () -> big.ring(16));
         Due.same("11: overflows of a ring of 16", big.count(8), 2);
+    }
+
+    private static void ringOfOnePlace() {
+        TargetRows x = new TargetRows(5, 4, 1);
+        branch(x, 100, CALL, 400);
+        branch(x, 200, CALL, 400);
+        Due.same("8: the newer one", x.ring(0), 204);
+        Due.same("11: depth", x.count(11), 1);
+        Due.same("11: overflow", x.count(8), 1);
     }
 
     private static void ringOfNoPlaces() {
