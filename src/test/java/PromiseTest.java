@@ -1,11 +1,5 @@
 /** Each promise of the document, with answers worked out by hand. */
-public final class PromiseTest {
-    private static final int JUMP = 0;
-    private static final int CALL = 1;
-    private static final int RETURN = 2;
-    private static final int BY_NUMBER = 3;
-    private static final int LAST_COUNT = 17;
-
+public final class PromiseTest extends Calls {
     public static void main(String[] args) {
         newObjectSizes();
         newObjectIsEmpty();
@@ -40,19 +34,6 @@ public final class PromiseTest {
         storageAnswers();
         countAnswers();
         Due.end("PromiseTest");
-    }
-
-    private static int branch(TargetRows x, int place, int kind, int target) {
-        x.next(place);
-        return x.check(kind, true, target);
-    }
-
-    private static int[] counts(TargetRows x) {
-        int[] all = new int[LAST_COUNT + 1];
-        for (int what = 0; what <= LAST_COUNT; what++) {
-            all[what] = x.count(what);
-        }
-        return all;
     }
 
     private static void unchanged(String label, TargetRows x, int[] before) {
