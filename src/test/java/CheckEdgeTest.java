@@ -19,6 +19,7 @@ public final class CheckEdgeTest extends Calls {
         cause6OtherTarget();
         entryAsItIsWhenChecked();
         entryGoneWhenChecked();
+        entryGoneIsCounted();
         missLosesTheRest();
         missGivesBackAnOverflow();
         missGivesBackAnUnderflow();
@@ -27,6 +28,7 @@ public final class CheckEdgeTest extends Calls {
         missedReturn();
         missedOthers();
         takenUpdates();
+        rowFirstThenHistory();
         notTakenUpdatesNothing();
         flushOfNone();
         flushOfOne();
@@ -236,25 +238,36 @@ public final class CheckEdgeTest extends Calls {
         Due.same("4: its entry's kind is a new one", x.check(JUMP, true, 604), 2);
     }
 
-    /** One way: the check of 200 throws out the entry by which 100 was told. */
-    private static TargetRows entryWent() {
+    /** One way: the check of 200 throws out the entry of a kind by which 100 was told. */
+    private static TargetRows entryWent(int toldKind) {
         TargetRows x = new TargetRows(1, 1, 4);
-        branch(x, 100, JUMP, 400);
+        branch(x, 100, toldKind, 400);
         x.next(200);
-        x.next(100);
+        Due.same("3: told by its entry", x.next(100), 400);
         Due.same("4: right, and an entry goes", x.check(JUMP, true, 204), 0);
         return x;
     }
 
     private static void entryGoneWhenChecked() {
-        for (int kind = JUMP; kind <= BY_NUMBER; kind++) {
-            Due.same("4: its entry went, taken", entryWent().check(kind, true, 4000), 1);
-            Due.same("4: its entry went, yet right", entryWent().check(kind, true, 400), 0);
+        for (int told = JUMP; told <= BY_NUMBER; told++) {
+            for (int kind = JUMP; kind <= BY_NUMBER; kind++) {
+                Due.same("4: its entry went, taken", entryWent(told).check(kind, true, 4000), 1);
+                Due.same("4: its entry went, yet right", entryWent(told).check(kind, true, 400), 0);
+            }
+            Due.same("4: its entry went, jump not taken", entryWent(told).check(JUMP, false, 0), 5);
+            Due.same("4: its entry went, call not taken", entryWent(told).check(CALL, false, 0), 5);
+            Due.same("4: its entry went, return not taken", entryWent(told).check(RETURN, false, 0), 3);
+            Due.same("4: its entry went, by number not taken", entryWent(told).check(BY_NUMBER, false, 0), 4);
         }
-        Due.same("4: its entry went, jump not taken", entryWent().check(JUMP, false, 0), 5);
-        Due.same("4: its entry went, call not taken", entryWent().check(CALL, false, 0), 5);
-        Due.same("4: its entry went, return not taken", entryWent().check(RETURN, false, 0), 3);
-        Due.same("4: its entry went, by number not taken", entryWent().check(BY_NUMBER, false, 0), 4);
+    }
+
+    private static void entryGoneIsCounted() {
+        TargetRows x = entryWent(CALL);
+        ringIs("8: the call that was told pushed", x, 104, 104);
+        Due.same("4: its entry went, return not taken", x.check(RETURN, false, 0), 3);
+        Due.same("11: by its cause", x.count(4), 1);
+        ringIs("8: as before it was told, and nothing popped", x, 104);
+        entryIs("6: not taken, the other's entry stays", x, 0, 0, 50, JUMP, 204);
     }
 
     private static void missLosesTheRest() {
@@ -361,6 +374,25 @@ public final class CheckEdgeTest extends Calls {
         Due.same("4: right", branch(right, 4, BY_NUMBER, 8), 0);
         Due.same("7: right, its row by the history before", right.row(1, 1), 8);
         Due.same("11: right, the history goes on", right.count(13), 2);
+    }
+
+    /** History 0 when told, 1 when checked, another one behind it: only the second gives the row. */
+    private static void rowFirstThenHistory() {
+        rowIsByTheHistoryAtTheCheck(68, 0, 25);
+        rowIsByTheHistoryAtTheCheck(900, 1, 233);
+    }
+
+    private static void rowIsByTheHistoryAtTheCheck(int target, int due, int historyAfter) {
+        TargetRows x = new TargetRows(5, 4, 2);
+        x.next(0);
+        x.next(64);
+        Due.same("4: right, the history goes to 1", x.check(JUMP, true, 4), 0);
+        Due.same("4: by number", x.check(BY_NUMBER, true, target), due);
+        for (int k = 0; k < 64; k++) {
+            Due.same("7: row(" + k + ", 0)", x.row(k, 0), k == (16 ^ 1) ? 0 : NONE);
+            Due.same("7: row(" + k + ", 1)", x.row(k, 1), k == (16 ^ 1) ? target : 0);
+        }
+        Due.same("11: then the history goes on", x.count(13), historyAfter);
     }
 
     private static TargetRows notTakenAs(int kind) {
