@@ -29,6 +29,8 @@ public final class LookEdgeTest extends Calls {
         storageMost();
         countNoneForAnotherWhat();
         countFirstAndLast();
+        looksChangeNothing();
+        refusedLooksChangeNothing();
         Due.end("LookEdgeTest");
     }
 
@@ -303,5 +305,36 @@ public final class LookEdgeTest extends Calls {
         Due.same("11: right", x.count(1), 1);
         Due.same("11: the first cause", x.count(2), 0);
         Due.same("11: the last cause", x.count(7), 1);
+    }
+
+    /** An entry, a row, two places in the ring and two in the queue, so that a look could spoil each. */
+    private static TargetRows someOfAll() {
+        TargetRows x = new TargetRows(2, 2, 3);
+        branch(x, 64, BY_NUMBER, 1000);
+        branch(x, 100, CALL, 400);
+        tell(x, 100, 1);
+        tell(x, 64, 1);
+        return x;
+    }
+
+    private static void looksChangeNothing() {
+        changesNothing("6: entry", LookEdgeTest::someOfAll, x -> x.entry(0, 0, 2));
+        changesNothing("7: row", LookEdgeTest::someOfAll, x -> x.row(16, 1));
+        changesNothing("8: ring", LookEdgeTest::someOfAll, x -> x.ring(1));
+        changesNothing("9: queued", LookEdgeTest::someOfAll, x -> x.queued(1, 1));
+        changesNothing("10: storage", LookEdgeTest::someOfAll, TargetRows::storage);
+        changesNothing("11: count", LookEdgeTest::someOfAll, x -> x.count(10));
+        changesNothing("11: count of another what", LookEdgeTest::someOfAll, x -> x.count(18));
+    }
+
+    private static void refusedLooksChangeNothing() {
+        changesNothing("6: entry refused", LookEdgeTest::someOfAll,
+                x -> Due.outOfBounds("6: set 2", () -> x.entry(2, 0, 0)));
+        changesNothing("7: row refused", LookEdgeTest::someOfAll,
+                x -> Due.outOfBounds("7: row 64", () -> x.row(64, 0)));
+        changesNothing("8: ring refused", LookEdgeTest::someOfAll,
+                x -> Due.outOfBounds("8: place 2", () -> x.ring(2)));
+        changesNothing("9: queued refused", LookEdgeTest::someOfAll,
+                x -> Due.outOfBounds("9: place 2", () -> x.queued(2, 0)));
     }
 }
